@@ -23,16 +23,14 @@ public final class ChargePlans {
 
     private final Goods goods;
     private final Heats heats;
-    private final Sums sums;
     private final Planning planning;
     private final Clashing clashing;
 
     public ChargePlans() {
         goods = new Goods();
         heats = new Heats();
-        sums = new Sums();
-        planning = new Planning(sums);
-        clashing = new Clashing(sums);
+        planning = new Planning();
+        clashing = new Clashing();
     }
 
     public int good(int kilos, int cents, int stock) throws IllegalStateException, IllegalArgumentException {
@@ -92,8 +90,7 @@ public final class ChargePlans {
     public int plan(int heat, int steps) throws IndexOutOfBoundsException, IllegalArgumentException {
         requireIndex(heat, heats.count);
         requireRange(steps, 0, MOST_STEPS);
-        sums.load(goods, heats, heat);
-        planning.search(steps);
+        planning.search(goods, heats, heat, steps);
         heats.keepPlan(heat, planning.best, planning.bestCents);
         return planning.bestCents;
     }
@@ -144,8 +141,7 @@ public final class ChargePlans {
 
     public int clash(int heat) throws IndexOutOfBoundsException {
         requireIndex(heat, heats.count);
-        sums.load(goods, heats, heat);
-        return clashing.find();
+        return clashing.find(goods, heats, heat);
     }
 
     public int take(int heat)
@@ -201,7 +197,7 @@ public final class ChargePlans {
             b = rest;
         }
         // The caller divides by it, so it is never 0.
-        return Math.max(a, 1);
+        return Math.max(a, 1L);
     }
 
     private static void requireIndex(int index, int count) {
@@ -374,7 +370,7 @@ public final class ChargePlans {
 
     /** The planning with steps, and what the latest one found. */
     private static final class Planning {
-        private final Sums sums;
+        private final Sums sums = new Sums();
         private final int[] charge = new int[MOST_GOODS];
         private final int[] best = new int[MOST_GOODS];
         private int bestCents;
@@ -383,11 +379,8 @@ public final class ChargePlans {
         private boolean spent;
         private boolean done;
 
-        private Planning(Sums sums) {
-            this.sums = sums;
-        }
-
-        private void search(int allowedSteps) {
+        private void search(Goods goods, Heats heats, int heat, int allowedSteps) {
+            sums.load(goods, heats, heat);
             bestCents = NONE;
             allowed = allowedSteps;
             steps = 0;
@@ -440,16 +433,13 @@ public final class ChargePlans {
         private static final int SETS = 1 << RULES;
         private static final int WORD_BITS = 64;
 
-        private final Sums sums;
+        private final Sums sums = new Sums();
         /** A bit for each set of rules: whether some charge breaks these and no others. */
         private final long[] seen = new long[SETS / WORD_BITS];
         private boolean allHold;
 
-        private Clashing(Sums sums) {
-            this.sums = sums;
-        }
-
-        private int find() {
+        private int find(Goods goods, Heats heats, int heat) {
+            sums.load(goods, heats, heat);
             for (int word = 0; word < seen.length; word++) {
                 seen[word] = 0;
             }
