@@ -3,8 +3,6 @@ public final class BoundTest {
     public static void main(String[] args) {
         ordinary();
         onlyGoodsWithStockAndLimit();
-        largest();
-        wrongInputs();
         Check.end();
     }
 
@@ -37,23 +35,5 @@ public final class BoundTest {
         Check.meaning("no good at all", () -> plans.bound(0));
         plans.limit(0, 1);
         Check.equal("with limit 1", 100, plans.bound(0));
-    }
-
-    private static void largest() {
-        ChargePlans plans = new ChargePlans();
-        plans.good(1, 100000, 1);
-        plans.heat(100000, 100000);
-        Check.equal("the largest bound", 10000000000L, plans.bound(0));
-    }
-
-    private static void wrongInputs() {
-        ChargePlans plans = new ChargePlans();
-        Check.index("index ahead of meaning", () -> plans.bound(0));
-        plans.heat(1, 1);
-        Check.meaning("no goods", () -> plans.bound(0));
-        plans.good(1, 1, 0);
-        Check.meaning("no stock", () -> plans.bound(0));
-        Check.index("heat -1", () -> plans.bound(-1));
-        Check.index("heat 1", () -> plans.bound(1));
     }
 }

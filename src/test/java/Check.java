@@ -1,3 +1,5 @@
+import java.util.List;
+
 /** Counts what is not as due and ends a test with exit code 1 if there was anything. */
 final class Check {
     private static int wrong = 0;
@@ -36,7 +38,20 @@ final class Check {
         refuses(call, UnsupportedOperationException.class, body);
     }
 
-    private static void refuses(String call, Class<?> due, Runnable body) {
+    static void same(String what, List<String> due, List<String> got) {
+        made++;
+        for (int line = 0; line < due.size() && line < got.size(); line++) {
+            if (!due.get(line).equals(got.get(line))) {
+                report(what + ": " + got.get(line) + ", due is " + due.get(line));
+                return;
+            }
+        }
+        if (due.size() != got.size()) {
+            report(what + ": " + got.size() + " lines, due are " + due.size());
+        }
+    }
+
+    static void refuses(String call, Class<?> due, Runnable body) {
         made++;
         Class<?> got = null;
         try {

@@ -9,9 +9,7 @@ public final class ClashTest {
         bundles();
         elements();
         earlierRulesAreLeftOutFirst();
-        noGoods();
         leavesAllElse();
-        wrongInputs();
         Check.end();
     }
 
@@ -80,18 +78,6 @@ public final class ClashTest {
         Check.equal("a cause that comes later yet", LOW_WEIGHT | tooPoor(2), plans.clash(0));
     }
 
-    private static void noGoods() {
-        ChargePlans plans = new ChargePlans();
-        plans.heat(1, 100000);
-        Check.equal("no goods", LOW_WEIGHT, plans.clash(0));
-        plans.good(10, 1, 0);
-        Check.equal("no stock", LOW_WEIGHT, plans.clash(0));
-        plans.arrive(0, 1);
-        Check.equal("a stock", 0, plans.clash(0));
-        plans.limit(0, 0);
-        Check.equal("no limit", LOW_WEIGHT, plans.clash(0));
-    }
-
     private static void leavesAllElse() {
         ChargePlans plans = Yard.make();
         plans.plan(0, 1);
@@ -101,11 +87,5 @@ public final class ClashTest {
         Yard.amounts("after a clash", plans, 0, 0, 2, 3);
         Check.equal("steps after a clash", 33, plans.planned(1));
         Check.equal("stock after a clash", 6, plans.stock(0));
-    }
-
-    private static void wrongInputs() {
-        ChargePlans plans = Yard.make();
-        Check.index("heat -1", () -> plans.clash(-1));
-        Check.index("heat 1", () -> plans.clash(1));
     }
 }

@@ -32,7 +32,8 @@ public final class FaceTest {
 
     public static void main(String[] args) {
         Class<?> type = ChargePlans.class;
-        Check.isTrue("public and final", Modifier.isPublic(type.getModifiers()) && Modifier.isFinal(type.getModifiers()));
+        Check.isTrue("public", Modifier.isPublic(type.getModifiers()));
+        Check.isTrue("final", Modifier.isFinal(type.getModifiers()));
         Check.equal("constructors", 1, type.getDeclaredConstructors().length);
         Check.isTrue("public constructor", Modifier.isPublic(type.getDeclaredConstructors()[0].getModifiers()));
         Check.equal("parameters of the constructor", 0, type.getDeclaredConstructors()[0].getParameterCount());

@@ -9,8 +9,6 @@ public final class LimitTest {
         plans.limit(0, 2);
         Check.equal("two of the cheap good", 110, plans.plan(0, Yard.STEPS));
         Yard.amounts("limit 2", plans, 0, 2, 3);
-        wrongInputs(plans);
-        Check.equal("plan after refused limits", 110, plans.plan(0, Yard.STEPS));
         plans.limit(0, 0);
         Check.equal("none of the cheap good", 150, plans.plan(0, Yard.STEPS));
         plans.limit(1, 4);
@@ -19,13 +17,5 @@ public final class LimitTest {
         Check.equal("limit above the stock", 50, plans.plan(0, Yard.STEPS));
         Check.equal("a limit is no stock", 5, plans.stock(0));
         Check.end();
-    }
-
-    private static void wrongInputs(ChargePlans plans) {
-        Check.index("good -1", () -> plans.limit(-1, 0));
-        Check.index("good 2", () -> plans.limit(2, 0));
-        Check.index("index ahead of range", () -> plans.limit(2, 7));
-        Check.range("limit -1", () -> plans.limit(0, -1));
-        Check.range("limit 7", () -> plans.limit(0, 7));
     }
 }

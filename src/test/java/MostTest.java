@@ -14,8 +14,6 @@ public final class MostTest {
         Yard.amounts("most 5", plans, 0, 4, 1);
         plans.most(0, 3);
         Check.equal("most 3", 27, plans.plan(0, Yard.STEPS));
-        wrongInputs(plans);
-        Check.equal("plan after refused ones", 27, plans.plan(0, Yard.STEPS));
         plans.most(0, 2);
         Check.equal("most 2", -1, plans.plan(0, Yard.STEPS));
         plans.most(0, 0);
@@ -24,13 +22,5 @@ public final class MostTest {
         plans.most(0, 30);
         Check.equal("most 30", 6, plans.plan(0, Yard.STEPS));
         Check.end();
-    }
-
-    private static void wrongInputs(ChargePlans plans) {
-        Check.index("heat -1", () -> plans.most(-1, 1));
-        Check.index("heat 2", () -> plans.most(2, 1));
-        Check.index("index ahead of range", () -> plans.most(2, 31));
-        Check.range("most -1", () -> plans.most(0, -1));
-        Check.range("most 31", () -> plans.most(0, 31));
     }
 }

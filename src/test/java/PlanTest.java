@@ -5,11 +5,8 @@ public final class PlanTest {
         firstOfTheSameCents();
         worstEndsRule();
         noPlanWhenNoneIsFound();
-        bestSoFarWhenSpent();
         changesLeaveThePlan();
         goodsForNothing();
-        withoutGoods();
-        wrongInputs();
         Check.end();
     }
 
@@ -57,22 +54,6 @@ public final class PlanTest {
         Check.turn("take after no charge", () -> plans.take(0));
     }
 
-    private static void bestSoFarWhenSpent() {
-        ChargePlans plans = new ChargePlans();
-        plans.good(10, 1, 1);
-        plans.good(10, 3, 1);
-        plans.heat(10, 10);
-        // The tries: 0; 0, 0; 0, 1 holds for 3 cents; 1; 1, 0 holds for 1 cent; 1, 1 is given up.
-        Check.equal("2 steps", -1, plans.plan(0, 2));
-        Check.equal("3 steps", 3, plans.plan(0, 3));
-        Yard.amounts("3 steps", plans, 0, 0, 1);
-        Check.equal("4 steps", 3, plans.plan(0, 4));
-        Check.equal("5 steps", 1, plans.plan(0, 5));
-        Yard.amounts("5 steps", plans, 0, 1, 0);
-        Check.equal("6 steps", 1, plans.plan(0, 6));
-        Check.equal("2 steps again", -1, plans.plan(0, 2));
-    }
-
     private static void changesLeaveThePlan() {
         ChargePlans plans = Yard.make();
         plans.plan(0, Yard.STEPS);
@@ -98,24 +79,5 @@ public final class PlanTest {
         Yard.amounts("goods for nothing", plans, 0, 0, 1);
         Check.equal("all others are given up", 6, plans.planned(1));
         Check.equal("taken for nothing", 0, plans.take(0));
-    }
-
-    private static void withoutGoods() {
-        ChargePlans plans = new ChargePlans();
-        plans.heat(1, 100000);
-        Check.equal("plan without goods", -1, plans.plan(0, Yard.STEPS));
-        Check.equal("steps without goods", 0, plans.planned(1));
-    }
-
-    private static void wrongInputs() {
-        ChargePlans plans = Yard.make();
-        plans.plan(0, Yard.STEPS);
-        Check.index("heat -1", () -> plans.plan(-1, 1));
-        Check.index("heat 1", () -> plans.plan(1, 1));
-        Check.index("index ahead of range", () -> plans.plan(1, -1));
-        Check.range("steps -1", () -> plans.plan(0, -1));
-        Check.range("steps 100001", () -> plans.plan(0, 100001));
-        Yard.amounts("after refused ones", plans, 0, 0, 2, 3);
-        Check.equal("steps after refused ones", 33, plans.planned(1));
     }
 }

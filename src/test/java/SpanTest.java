@@ -4,7 +4,6 @@ public final class SpanTest {
         highEndsBind();
         lowEndsBind();
         eachHeatAndElementHasItsOwn();
-        wrongInputs();
         Check.end();
     }
 
@@ -63,21 +62,5 @@ public final class SpanTest {
             plans.span(element, element, 100 * element, 100 * element + 50);
             Check.equal("as it should be", 1, plans.plan(element, Yard.STEPS));
         }
-    }
-
-    private static void wrongInputs() {
-        ChargePlans plans = Yard.make();
-        plans.span(0, 0, 0, 100);
-        Check.index("heat -1", () -> plans.span(-1, 0, 0, 10000));
-        Check.index("heat 1", () -> plans.span(1, 0, 0, 10000));
-        Check.index("element -1", () -> plans.span(0, -1, 0, 10000));
-        Check.index("element 4", () -> plans.span(0, 4, 0, 10000));
-        Check.index("index ahead of range, heat", () -> plans.span(1, 0, 5, 4));
-        Check.index("index ahead of range, element", () -> plans.span(0, 4, 5, 4));
-        Check.range("low above high", () -> plans.span(0, 0, 10000, 9999));
-        Check.range("low -1", () -> plans.span(0, 0, -1, 10000));
-        Check.range("high 10001", () -> plans.span(0, 0, 0, 10001));
-        Check.range("both 10001", () -> plans.span(0, 0, 10001, 10001));
-        Check.equal("plan after refused spans", 1000, plans.plan(0, Yard.STEPS));
     }
 }

@@ -5,7 +5,6 @@ public final class TakeTest {
         severalHeatsFromOneStock();
         tooFewOfALaterGood();
         limitsDoNotBindTaking();
-        wrongInputs();
         Check.end();
     }
 
@@ -63,12 +62,5 @@ public final class TakeTest {
         plans.limit(2, 0);
         Check.equal("take with a limit set later", 550, plans.take(0));
         stocks("taken", plans, 6, 2, 0);
-    }
-
-    private static void wrongInputs() {
-        ChargePlans plans = Yard.make();
-        Check.turn("no plan yet", () -> plans.take(0));
-        Check.index("heat -1", () -> plans.take(-1));
-        Check.index("heat 1", () -> plans.take(1));
     }
 }

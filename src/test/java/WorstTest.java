@@ -5,7 +5,6 @@ public final class WorstTest {
         allElements();
         sharesAsTheyAreNow();
         largestSums();
-        wrongInputs();
         Check.end();
     }
 
@@ -67,25 +66,5 @@ public final class WorstTest {
         expect(plans, 0, 1, 10000, 1);
         // 24 bundles of 1,000 kilos and 5 of 999 are too light, so all 30 are in the charge.
         expect(plans, 0, 0, (24L * 1000 * 10000 + 6L * 999 * 9999) / 6, 29994 / 6);
-    }
-
-    private static void wrongInputs() {
-        ChargePlans plans = Yard.make();
-        Check.turn("no plan yet", () -> plans.worst(0, 0, 0, 0));
-        Check.index("index ahead of turn, heat", () -> plans.worst(1, 0, 0, 0));
-        Check.index("index ahead of turn, element", () -> plans.worst(0, 4, 0, 0));
-        Check.index("index ahead of turn, end", () -> plans.worst(0, 0, 2, 0));
-        Check.index("index ahead of turn, part", () -> plans.worst(0, 0, 0, 2));
-        plans.plan(0, Yard.STEPS);
-        Check.index("heat -1", () -> plans.worst(-1, 0, 0, 0));
-        Check.index("heat 1", () -> plans.worst(1, 0, 0, 0));
-        Check.index("element -1", () -> plans.worst(0, -1, 0, 0));
-        Check.index("element 4", () -> plans.worst(0, 4, 0, 0));
-        Check.index("end -1", () -> plans.worst(0, 0, -1, 0));
-        Check.index("end 2", () -> plans.worst(0, 0, 2, 0));
-        Check.index("part -1", () -> plans.worst(0, 0, 0, -1));
-        Check.index("part 2", () -> plans.worst(0, 0, 0, 2));
-        plans.take(0);
-        Check.turn("plan was taken", () -> plans.worst(0, 0, 0, 0));
     }
 }
