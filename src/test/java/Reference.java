@@ -160,7 +160,7 @@ final class Reference {
         Good cheapest = null;
         for (Good good : goods) {
             boolean there = good.stock > 0 && good.limit > 0;
-            if (there && (cheapest == null || good.cents * (long) cheapest.kilos < cheapest.cents * (long) good.kilos)) {
+            if (there && (cheapest == null || isCheaper(good, cheapest))) {
                 cheapest = good;
             }
         }
@@ -168,6 +168,10 @@ final class Reference {
         long total = (long) heats.get(heat).low * cheapest.cents;
         long whole = total / cheapest.kilos;
         return whole * cheapest.kilos == total ? whole : whole + 1;
+    }
+
+    private static boolean isCheaper(Good one, Good other) {
+        return (long) one.cents * other.kilos < (long) other.cents * one.kilos;
     }
 
     int clash(int heat) {
