@@ -4,7 +4,7 @@ import java.util.function.LongSupplier;
 import java.util.function.Supplier;
 
 /**
- * All that can be told of a state from outside, as lines of calls and answers. What changes the state is tried on an
+ * What can be told of a state from outside, as lines of calls and answers. What changes the state is tried on an
  * object of its own each time, so no look disturbs another and none comes near the document's 512 calls.
  */
 final class Look {
