@@ -7,6 +7,7 @@ public final class BoundEdgesTest {
         leastWholeNumberNotBelow();
         leastOverAllGoods();
         largestBound();
+        noOtherRuleCounts();
         emptiedByTaking();
         Check.end();
     }
@@ -93,6 +94,24 @@ public final class BoundEdgesTest {
         Check.equal("one kilo less", 9999900000L, plans.bound(1));
         plans.good(999, 100000, 6);
         Check.equal("a large one that is rounded up", 10010011, plans.bound(0));
+    }
+
+    /** "its low weight times the least of cents over kilos of all goods": no share, no bundles, no high weight. */
+    private static void noOtherRuleCounts() {
+        ChargePlans plans = new ChargePlans();
+        plans.good(10, 30, 1);
+        plans.good(10, 40, 6);
+        plans.element(0, 0, 9000, 10000);
+        plans.heat(55, 55);
+        plans.heat(55, 100000);
+        for (int heat = 0; heat < 2; heat++) {
+            Check.equal("bound at first", 165, plans.bound(heat));
+            plans.span(heat, 0, 0, 10);
+            plans.span(heat, 3, 10000, 10000);
+            plans.most(heat, 0);
+            Check.equal("no charge holds", -1, plans.plan(heat, Yard.STEPS));
+            Check.equal("bound of a heat without any charge", 165, plans.bound(heat));
+        }
     }
 
     private static void emptiedByTaking() {

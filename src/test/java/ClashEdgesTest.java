@@ -6,6 +6,7 @@ public final class ClashEdgesTest {
         theLastChargeOfAllHolds();
         oneChargeHoldsAndIsLost();
         leftOutForGood();
+        chargesThatNoPlanningFound();
         clashesChangeNothing();
         Check.end();
     }
@@ -63,8 +64,8 @@ public final class ClashEdgesTest {
 
     /** "each rule is left out for good when there is none without it, too": of two causes the later one stays. */
     private static void leftOutForGood() {
-        for (int first = 2; first < 10; first++) {
-            for (int second = 2; second < 10; second++) {
+        for (int first = 1; first <= 10; first++) {
+            for (int second = 1; second <= 10; second++) {
                 ChargePlans plans = brokenBy(first, second);
                 int due = 1 | 1 << Math.max(first, second);
                 Check.equal("rules " + first + " and " + second + " are broken", due, plans.clash(0));
@@ -72,11 +73,12 @@ public final class ClashEdgesTest {
         }
     }
 
-    /** All spans are 50 to 50, and so are the only good's shares, but for one end by each of the two rules. */
+    /** The heat's ends are just what its only bundle has, but for the end of each of the two rules. */
     private static ChargePlans brokenBy(int first, int second) {
         ChargePlans plans = new ChargePlans();
-        plans.good(1, 1, 1);
+        plans.good(first == 1 || second == 1 ? 2 : 1, 1, 1);
         plans.heat(1, 1);
+        plans.most(0, first == 10 || second == 10 ? 0 : 1);
         for (int element = 0; element < 4; element++) {
             int tooRich = 2 + 2 * element;
             int tooPoor = 3 + 2 * element;
@@ -85,6 +87,15 @@ public final class ClashEdgesTest {
                 first == tooRich || second == tooRich ? 51 : 50);
         }
         return plans;
+    }
+
+    /** A clash is told of all charges, not of those that a planning went through. */
+    private static void chargesThatNoPlanningFound() {
+        ChargePlans plans = Yard.make();
+        Check.equal("no steps for a plan", -1, plans.plan(0, 0));
+        Check.equal("clash after no steps", 0, plans.clash(0));
+        Check.equal("too few steps for a plan", -1, plans.plan(0, 10));
+        Check.equal("clash after too few steps", 0, plans.clash(0));
     }
 
     private static void clashesChangeNothing() {

@@ -46,7 +46,25 @@ public final class FaceTest {
         Check.isTrue("nothing is missing of " + left, left.isEmpty());
         restIsPrivate(type.getDeclaredMethods());
         restIsPrivate(type.getDeclaredFields());
+        classesInsideAreHidden(type.getDeclaredClasses());
+        namesOfTheFaceStandOnce(type.getDeclaredMethods());
         Check.end();
+    }
+
+    private static void classesInsideAreHidden(Class<?>[] classes) {
+        for (Class<?> inside : classes) {
+            int modifiers = inside.getModifiers();
+            Check.isTrue("static: " + inside, Modifier.isStatic(modifiers));
+            Check.isTrue("hidden: " + inside, !Modifier.isPublic(modifiers) && !Modifier.isProtected(modifiers));
+        }
+    }
+
+    private static void namesOfTheFaceStandOnce(Method[] methods) {
+        for (Method method : methods) {
+            long bearers = Arrays.stream(methods).filter(other -> other.getName().equals(method.getName())).count();
+            Check.isTrue("one method bears the name of " + method,
+                bearers == 1 || !Modifier.isPublic(method.getModifiers()));
+        }
     }
 
     private static void restIsPrivate(Member[] members) {
