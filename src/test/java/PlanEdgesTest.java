@@ -11,6 +11,7 @@ public final class PlanEdgesTest {
         spentAheadOfATry();
         giveUpByCents();
         giveUpByKilos();
+        nothingElseIsGivenUp();
         emptyStocks();
         aChargeWithoutBundlesIsNoPlan();
         fiveGoodsAndFourHeats();
@@ -98,6 +99,22 @@ public final class PlanEdgesTest {
             // 0; 0 0; 1; and only up to 10 kilos 1 0 comes yet.
             Check.equal("steps at " + kilos + " kilos", kilos > 10 ? 3 : 4, plans.planned(1));
         }
+    }
+
+    /** Bundles, shares and a low weight that can't be reached are looked at in whole charges alone. */
+    private static void nothingElseIsGivenUp() {
+        ChargePlans plans = new ChargePlans();
+        plans.good(10, 1, 2);
+        plans.good(10, 1, 2);
+        plans.heat(50, 50);
+        Check.equal("too few kilos", -1, plans.plan(0, Yard.STEPS));
+        Check.equal("all tries for too few kilos", 3 + 9, plans.planned(1));
+        plans.most(0, 0);
+        plans.span(0, 0, 10000, 10000);
+        plans.element(0, 1, 0, 1);
+        plans.span(0, 1, 0, 0);
+        Check.equal("too many bundles and wrong shares", -1, plans.plan(0, Yard.STEPS));
+        Check.equal("all tries for these", 3 + 9, plans.planned(1));
     }
 
     private static void emptyStocks() {
